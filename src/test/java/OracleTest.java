@@ -1,9 +1,25 @@
+import java.util.HashSet;
 import java.util.Random;
+import java.util.Set;
 
 /** Random runs of calls, by fixed seeds, on TermBank and on NaiveBank side by side. */
 public final class OracleTest {
     private static final String[] NAMES = {"a", "b", "c", "f", "g", "h", "p", "q", "x", "z"};
     private static final int CALLS = 500;
+    /** Banks in which much happens: many steps, many terms, much that meets, rings, deep terms. */
+    private static final String[] THEMES = {
+        "symbol a 0 1;symbol b 0 1;symbol f 3 1;symbol g 1 1;rule b to a;room 0;term f(b,b,b);term f(b,?0,b);",
+        "symbol a 3 1;symbol b 3 1;symbol c 3 1;symbol f 3 1;rule f(?0,?1,?2) to c(?2,?0,?1);"
+            + "rule c(?0,?1,?2) to b(?2,?1,?0);rule b(?0,?1,?2) to a(?0,?2,?1);term f(?0,?1,?2);room 2;",
+        "symbol a 0 1;symbol f 2 1;rule f(f(?0,?1),?2) to f(?0,f(?1,?2));rule f(?0,?0) to ?0;room 1;"
+            + "term f(f(f(?0,?1),a),f(?2,a));entry f(?0,?1);entry f(?0,?0);entry f(a,?3);",
+        "symbol f 3 1;symbol g 2 2;symbol h 1 3;symbol a 0 1;symbol b 0 2;entry f(?0,?1,?2);entry g(?0,h(?0));",
+        "symbol g 1 1;symbol h 1 1;rule h(g(?0)) to g(h(?0));rule g(g(g(?0))) to g(?0);rule h(h(?1)) to g(?1);"
+            + "term h(h(g(h(g(h(?0))))));room 3;entry h(?2);entry g(g(?1));",
+        "symbol f 2 1;symbol g 1 1;symbol a 0 1;term f(?0,?1);term f(g(g(g(?1))),g(g(g(a))));term f(?1,g(g(?0)));"
+            + "term f(g(g(g(?2))),?2);term f(f(?0,?1),f(?1,?2));term f(f(g(?1),g(g(?2))),f(?3,g(g(g(a)))));term f(?0,f(?1,?2));",
+        "symbol a 0 9;symbol b 0 1;symbol f 2 3;rule f(a,?0) to f(?0,b);rule f(?0,b) to ?0;rule a to b;term f(a,a);",
+    };
 
     private final Random random;
     private final TermBank bank = new TermBank();
@@ -26,12 +42,13 @@ public final class OracleTest {
     }
 
     private void run(long seed) {
-        int style = random.nextInt(4);
+        int style = random.nextInt(12);
         for (int k = 0; k < CALLS && same; k++) {
-            if (k == 0 && style != 0 || random.nextInt(150) == 0) {
-                tell();
+            if (k == 0 && style != 0 || random.nextInt(250) == 0) {
+                tell(style % 2 == 0 ? THEMES[random.nextInt(THEMES.length)] : randomText());
             }
-            one(random.nextInt(100));
+            boolean fills = style == 4 && random.nextInt(3) > 0;
+            one(fills ? 80 + random.nextInt(6) : random.nextInt(100));
             if (k % 25 == 24) {
                 compareAll();
             }
@@ -55,14 +72,15 @@ public final class OracleTest {
 
     // ---- texts
 
-    private void tell() {
+    private String randomText() {
         String text = random.nextInt(8) == 0 ? noise() : text();
-        if (random.nextInt(4) == 0) {
+        if (random.nextInt(6) == 0) {
             text = spoilt(text);
         }
-        if (text.length() > 700) {
-            text = text.substring(0, 700);
-        }
+        return text.length() > 700 ? text.substring(0, 700) : text;
+    }
+
+    private void tell(String text) {
         int[] n = Checks.numbers(text);
         trace.append("text ").append(text).append('\n');
         both("count(12)", () -> bank.count(12), () -> naive.count(12));
@@ -88,10 +106,16 @@ public final class OracleTest {
             text.append(random.nextInt(3) == 0 ? 1 + random.nextInt(9) : 1).append(';');
         }
         int clauses = random.nextInt(24);
+        Set<String> entries = new HashSet<>();
         for (int k = 0; k < clauses; k++) {
             switch (random.nextInt(8)) {
                 case 0, 1, 2 -> text.append(rule());
-                case 3, 4, 5 -> text.append("entry ").append(tree(1 + random.nextInt(3))).append(';');
+                case 3, 4, 5 -> {
+                    String entry = tree(1 + random.nextInt(3));
+                    if (entries.add(entry) || random.nextInt(30) == 0) {
+                        text.append("entry ").append(entry).append(';');
+                    }
+                }
                 case 6 -> text.append("term").append(blank()).append(tree(1 + random.nextInt(6))).append(" ;");
                 default -> text.append(random.nextInt(5) == 0 ? "room " + random.nextInt(10) + ";" : "\n");
             }
@@ -195,7 +219,9 @@ public final class OracleTest {
             both("variable(" + v + ")", () -> bank.variable(v), () -> naive.variable(v));
         } else if (chance < 28) {
             int symbol = upTo(Math.max(bank.count(0) - 1, 0));
-            both("make(" + symbol + "," + s + "," + t + "," + u + ")", () -> bank.make(symbol, s, t, u), () -> naive.make(symbol, s, t, u));
+            int b = random.nextInt(4) == 0 ? s : t;
+            int c = random.nextInt(4) == 0 ? s : u;
+            both("make(" + symbol + "," + s + "," + b + "," + c + ")", () -> bank.make(symbol, s, b, c), () -> naive.make(symbol, s, b, c));
         } else if (chance < 34) {
             int v = random.nextInt(3) > 0 ? random.nextInt(3) : upTo(7);
             int to = random.nextInt(8) == 0 ? -1 : s;
@@ -239,8 +265,25 @@ public final class OracleTest {
             }
         } else if (chance < 93) {
             keepOrRestore();
+        } else if (chance < 94) {
+            tower(s);
         } else {
             ask(random.nextInt(10), s, t);
+        }
+    }
+
+    /** A term in which another one stands as often as can be, and its normal form. */
+    private void tower(int from) {
+        int symbol = Math.max(bank.count(0) - 1 - random.nextInt(3), 0);
+        int[] top = {from};
+        for (int k = 0; k < 5 && top[0] >= 0; k++) {
+            int arg = top[0];
+            both("make(" + symbol + "," + arg + "," + arg + "," + arg + ")",
+                () -> top[0] = bank.make(symbol, arg, arg, arg), () -> naive.make(symbol, arg, arg, arg));
+            int made = top[0];
+            if (random.nextInt(3) == 0) {
+                both("normal(" + made + ")", () -> bank.normal(made), () -> naive.normal(made));
+            }
         }
     }
 
