@@ -553,7 +553,8 @@ public final class TermBank {
         /** The term that came before into the same bucket. */
         final int[] chains = new int[ROWS];
         final int[] buckets = new int[BUCKETS];
-        final boolean[] marks = new boolean[ROWS];
+        /** 1 of what was marked last, else 0. */
+        final int[] marks = new int[ROWS];
         int there = 0;
 
         Terms(Symbols symbols) {
@@ -701,13 +702,13 @@ public final class TermBank {
             return place - from;
         }
 
-        /** Marks a term and all that it is made of, and nothing else below it. */
+        /** Marks a term and all that it is made of, whose numbers are lesser ones. */
         void markParts(int term) {
-            Arrays.fill(marks, 0, term, false);
-            marks[term] = true;
+            Arrays.fill(marks, 0);
+            marks[term] = 1;
             for (int k = term; k >= 0; k--) {
-                for (int i = 0; marks[k] && i < arities[k]; i++) {
-                    marks[argumentOf(k, i)] = true;
+                for (int i = 0; marks[k] == 1 && i < arities[k]; i++) {
+                    marks[argumentOf(k, i)] = 1;
                 }
             }
         }
@@ -716,7 +717,7 @@ public final class TermBank {
             markParts(term);
             int parts = 0;
             for (int k = 0; k <= term; k++) {
-                parts += marks[k] ? 1 : 0;
+                parts += marks[k];
             }
             return parts;
         }
@@ -779,7 +780,9 @@ public final class TermBank {
 
         private static void fillAnew(int[] cells) {
             Arrays.fill(cells, 0);
-            Arrays.fill(cells, BOUND, BOUND + VARIABLES, NONE);
+            for (int v = 0; v < VARIABLES; v++) {
+                cells[BOUND + v] = NONE;
+            }
             cells[ROOM] = USUAL_ROOM;
         }
 
@@ -1303,7 +1306,7 @@ public final class TermBank {
             pairs = 0;
             addPair(s, t + side);
             // Each pair beyond the first comes by joining two classes, and there are fewer joins than nodes.
-            for (int k = 0; k < pairs; k++) {
+            for (int k = 0; k < pairs && k < pairFirst.length; k++) {
                 if (!joined(topOf(pairFirst[k]), topOf(pairSecond[k]))) {
                     return CLASH;
                 }
@@ -1392,7 +1395,7 @@ public final class TermBank {
                 listed[gone] = root;
                 gone++;
             }
-            for (int k = 0; k < gone; k++) {
+            for (int k = 0; k < gone && k < NODES; k++) {
                 int node = solid[listed[k]];
                 for (int i = 0; node != NONE && i < terms.arities[termOf(node)]; i++) {
                     int part = topOf(partOf(node, i));
@@ -1411,7 +1414,7 @@ public final class TermBank {
             int found = 1;
             listed[0] = root;
             uses[root] = 0;
-            for (int k = 0; k < found; k++) {
+            for (int k = 0; k < found && k < NODES; k++) {
                 int node = solid[listed[k]];
                 for (int i = 0; node != NONE && i < terms.arities[termOf(node)]; i++) {
                     int part = topOf(partOf(node, i));
@@ -1428,16 +1431,12 @@ public final class TermBank {
 
         /** Binds, after wayOf() of terms TOGETHER was ALIKE, the variables of these bits, and no others: 1, or FULL. */
         int bindAll(int bits, int[] row, int from) {
-            Arrays.fill(row, from, from + VARIABLES, NONE);
             for (int v = 0; v < VARIABLES; v++) {
-                if ((bits >> v & 1) != 0) {
-                    int node = terms.variableTerm(v);
-                    int bound = boundOf(node);
-                    if (bound == FULL) {
-                        return FULL;
-                    }
-                    row[from + v] = bound;
+                int bound = (bits >> v & 1) == 0 ? NONE : boundOf(terms.variableTerm(v));
+                if (bound == FULL) {
+                    return FULL;
                 }
+                row[from + v] = bound;
             }
             return 1;
         }
@@ -1606,7 +1605,7 @@ public final class TermBank {
         boolean isReduced(int term) {
             terms.markParts(term);
             for (int part = 0; part <= term; part++) {
-                if (terms.marks[part] && firstRule(core.ledger, matcher, part) != NONE) {
+                if (terms.marks[part] == 1 && firstRule(core.ledger, matcher, part) != NONE) {
                     return false;
                 }
             }
@@ -1667,7 +1666,6 @@ public final class TermBank {
             }
             asked[height] = term;
             stages[height] = 0;
-            Arrays.fill(parts, height * MAX_ARITY, height * MAX_ARITY + MAX_ARITY, NONE);
             height++;
             return NONE;
         }
