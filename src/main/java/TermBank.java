@@ -1139,7 +1139,8 @@ public final class TermBank {
         }
 
         private int closedPart(int term, int[] row, int from, int level) {
-            if (level > MAX_DEPTH * (VARIABLES + 1)) {
+            // Without a ring a way down passes each variable once, so what goes on is deeper than terms can be.
+            if (level > MAX_DEPTH + VARIABLES) {
                 return FULL;
             }
             if (terms.isVariable(term)) {
@@ -1284,7 +1285,7 @@ public final class TermBank {
         final int[] parents = new int[NODES];
         /** Of a class: a node that is no variable, or NONE. */
         final int[] solid = new int[NODES];
-        /** Of a class: the node of its least variable, or NONE. */
+        /** Of a class of variables alone: the node of the least one. */
         final int[] least = new int[NODES];
         /** Of a class: the term that all of it is, once that is made. */
         final int[] solved = new int[NODES];
@@ -1353,7 +1354,7 @@ public final class TermBank {
             rounds[node] = round;
             parents[node] = node;
             solid[node] = isVariable ? NONE : node;
-            least[node] = isVariable ? node : NONE;
+            least[node] = node;
             solved[node] = NONE;
             uses[node] = NONE;
         }
@@ -1367,7 +1368,9 @@ public final class TermBank {
             int q = solid[y];
             parents[y] = x;
             solid[x] = p == NONE ? q : p;
-            least[x] = lesser(least[x], least[y]);
+            if (p == NONE && q == NONE) {
+                least[x] = lesser(least[x], least[y]);
+            }
             if (p == NONE || q == NONE) {
                 return true;
             }
@@ -1380,11 +1383,8 @@ public final class TermBank {
             return true;
         }
 
-        /** Of two variables' nodes that of the least variable; NONE is none. */
+        /** Of two variables' nodes that of the lesser variable. */
         private int lesser(int x, int y) {
-            if (x == NONE || y == NONE) {
-                return x == NONE ? y : x;
-            }
             return ~terms.heads[termOf(x)] <= ~terms.heads[termOf(y)] ? x : y;
         }
 

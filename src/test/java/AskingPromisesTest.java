@@ -57,6 +57,9 @@ public final class AskingPromisesTest {
         TermBank both = Checks.bankOf("symbol a 0 3;symbol b 0 5;symbol c 0 8;rule b to a;rule c to b;");
         Checks.due("between two rules: 3 to 8", both.symbol(1, 3), 6);
         Checks.due("between two rules: the least", both.symbol(1, 4), 3);
+        TermBank nine = Checks.bankOf("symbol a 0 9;symbol b 0 9;rule b to a;");
+        Checks.due("9 alone", nine.symbol(1, 3), 1);
+        Checks.due("9 is the least", nine.symbol(1, 4), 9);
         TermBank counted = Checks.bankOf("symbol a 0 1;symbol f 2 2;symbol g 1 1;rule f(?0,a) to g(g(?0));");
         // f + 1 + a against 1 + 2g; as much is not enough, f being less than g.
         Checks.due("f: more than 1", counted.symbol(1, 3), 8);
@@ -186,6 +189,14 @@ public final class AskingPromisesTest {
         Checks.due("f(b,a), f(a,b): the first unlike ones", bank.order(ba, ab), 1);
         Checks.due("f(a,b), f(b,a)", bank.order(ab, ba), 2);
         Checks.due("f(a,b), f(a,a): the second ones", bank.order(ab, bank.make(3, a, a, 0)), 1);
+        int deepA = a;
+        int deepB = b;
+        for (int k = 0; k < 5; k++) {
+            deepA = bank.make(4, deepA, 0, 0);
+            deepB = bank.make(4, deepB, 0, 0);
+        }
+        Checks.due("unlike at the 6th level alone", bank.order(deepB, deepA), 1);
+        Checks.due("and back", bank.order(deepA, deepB), 2);
         int xy = bank.make(3, x, y, 0);
         int yx = bank.make(3, y, x, 0);
         Checks.due("f(?0,?1), f(?1,?0): neither", bank.order(xy, yx), 3);

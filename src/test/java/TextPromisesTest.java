@@ -161,6 +161,12 @@ public final class TextPromisesTest {
         faulty("5", 1, 0);
         faulty("Term ?0;", 1, 0);
         faulty("terms ?0;", 1, 0);
+        faulty("germ ?0;", 1, 0);
+        faulty("zymbol a 0 1;", 1, 0);
+        faulty("mule ?0 to ?0;", 1, 0);
+        faulty("intry ?0;", 1, 0);
+        faulty("boom 3;", 1, 0);
+        faulty("symbol f 1 1;rule f(?0) do ?0;", 1, 24);
         faulty("ter m ?0;", 1, 0);
         faulty("term\t?0;", 1, 4);
         faulty("term ?0", 1, 7);
@@ -266,6 +272,11 @@ public final class TextPromisesTest {
         faulty(g + "term g(g(g(g(g(g(?0))))));", 2, 43);
         faulty(g + "term g(g(g(g(g(g(a))))));", 2, 43);
         faulty(g + "term g(g(g(g(g(g(z))))));", 2, 43);
+        faulty(g + "entry g(g(g(g(g(g(a))))));", 2, 44);
+        faulty(g + "rule g(g(g(g(g(g(a)))))) to a;", 2, 43);
+        faulty(g + "rule g(a) to g(g(g(g(g(g(a))))));", 2, 51);
+        Checks.due("depth 6 of entries and rules", Checks.bankOf("symbol g 1 1;symbol a 0 1;entry g(g(g(g(g(a)))));"
+            + "rule g(g(g(g(g(a))))) to a;symbol f 1 2;rule f(f(f(f(f(a))))) to g(g(g(g(g(a)))));").count(2), 2);
         faulty(g + "term g(g(g(g(g(g(", 1, 43);
         faulty(g + "term g(g(g(g(g(g(?9", 2, 43);
     }
