@@ -583,7 +583,7 @@ public final class TermBank {
             return made(~variable, NONE, NONE, NONE);
         }
 
-        /** The term of a head and its arguments, those beyond the arity not looked at; FULL if one of them is. */
+        /** The term of a head and its arguments, those beyond the arity not looked at; FULL if one of them is it. */
         int made(int head, int a, int b, int c) {
             int term = there;
             boolean isSymbol = symbols.has(head);
@@ -594,7 +594,7 @@ public final class TermBank {
             arguments[term * MAX_ARITY] = arity > 0 ? a : NONE;
             arguments[term * MAX_ARITY + 1] = arity > 1 ? b : NONE;
             arguments[term * MAX_ARITY + 2] = arity > 2 ? c : NONE;
-            if (arity > 0 && a == FULL || arity > 1 && b == FULL || arity > 2 && c == FULL) {
+            if (arity > 0 && a < 0 || arity > 1 && b < 0 || arity > 2 && c < 0) {
                 return FULL;
             }
             int bucket = bucketOf(term);

@@ -210,6 +210,16 @@ public final class ActPromisesTest {
         for (int wrong : WRONG) {
             refused("close(" + wrong + ")", bank, () -> bank.close(wrong), -1, 1);
         }
+        TermBank chain = Checks.bankOf("symbol g 1 1;symbol a 0 1;term g(g(g(g(g(a)))));");
+        for (int v = 0; v < 8; v++) {
+            chain.variable(v);
+        }
+        for (int v = 0; v < 7; v++) {
+            chain.bind(v, 6 + v + 1);
+        }
+        chain.bind(7, 5);
+        Checks.due("by all variables to the deepest term", chain.close(6), 5);
+        Checks.due("g(?0) is FULL", chain.close(chain.make(0, 6, 0, 0)), -3);
         TermBank deep = Checks.bankOf("symbol g 1 1;term g(g(g(?1)));term g(g(g(?0)));");
         // ?1 0, g(?1) 1, gg(?1) 2, ggg(?1) 3, ?0 4, g(?0) 5, gg(?0) 6, ggg(?0) 7
         deep.bind(0, 3);
@@ -510,6 +520,14 @@ public final class ActPromisesTest {
         refused("size 13", great, () -> great.rules(thirteen, 0), -1, 1);
         refused("size 13 is too much, though both are", great, () -> great.rules(thirteen, twelve), -1, 1);
         Checks.due("size 12", great.rules(twelve, 0), 1);
+        TermBank right = Checks.bankOf("symbol f 3 1;symbol g 1 1;symbol h 1 9;symbol p 1 9;term f(f(?0,?0,?0),f(?0,?0,?0),?0);");
+        int part = right.count(1) - 1;
+        int gg = right.make(1, right.make(1, part, 0, 0), 0, 0);
+        int ggg = right.make(1, gg, 0, 0);
+        int hp = right.make(2, right.make(3, part, 0, 0), 0, 0);
+        Checks.due("a RIGHT of size 12", right.rules(hp, gg), 1);
+        refused("a RIGHT of size 13, though less", right, () -> right.rules(hp, ggg), -1, 1);
+        Checks.due("it is less", right.order(hp, ggg), 1);
     }
 
     private static void entersAndLeaves() {
