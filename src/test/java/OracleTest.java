@@ -206,7 +206,10 @@ public final class OracleTest {
     }
 
     private int upTo(int n) {
-        int chance = random.nextInt(40);
+        int chance = random.nextInt(60);
+        if (chance == 2) {
+            return random.nextBoolean() ? Integer.MIN_VALUE : Integer.MAX_VALUE;
+        }
         return chance == 0 ? -1 : chance == 1 ? n + 1 : random.nextInt(n + 1);
     }
 
