@@ -1,6 +1,5 @@
 /** Promises 16 to 30: the acts. */
 public final class ActPromisesTest {
-    private static final int[] WRONG = {-1, -2, Integer.MIN_VALUE, Integer.MAX_VALUE};
     /** Terms: 0 ?0, 1 a, 2 g(a), 3 f(?0,g(a)), 4 g(?0), 5 g(g(?0)), 6 f(?0,a), 7 ?1, 8 f(?1,?1). */
     private static final String BASE = "symbol a 0 1;symbol f 2 2;symbol g 1 1;term f(?0,g(a));rule g(g(?0)) to ?0;"
         + "rule f(?0,a) to ?0;entry f(?1,?1);entry g(?0);room 3;";
@@ -11,7 +10,6 @@ public final class ActPromisesTest {
     public static void main(String[] args) {
         variables();
         makes();
-        fullOfTerms();
         binds();
         applies();
         closes();
@@ -64,9 +62,6 @@ public final class ActPromisesTest {
         Checks.due("two terms", bank.count(1), 2);
         Checks.due("three acts", bank.count(11), 3);
         refused("variable(8)", bank, () -> bank.variable(8), -1, 1);
-        for (int wrong : WRONG) {
-            refused("variable(" + wrong + ")", bank, () -> bank.variable(wrong), -1, 1);
-        }
     }
 
     private static void makes() {
@@ -85,10 +80,6 @@ public final class ActPromisesTest {
         refused("no first", bank, () -> bank.make(2, 5, 0, 0), -1, 1);
         refused("no second", bank, () -> bank.make(1, 0, 5, 0), -1, 1);
         refused("no third", bank, () -> bank.make(3, 0, 0, 5), -1, 1);
-        for (int wrong : WRONG) {
-            refused("make(" + wrong + ", ..)", bank, () -> bank.make(wrong, 0, 0, 0), -1, 1);
-            refused("make(2, " + wrong + ")", bank, () -> bank.make(2, wrong, 0, 0), -1, 1);
-        }
         int deep = x;
         for (int k = 0; k < 5; k++) {
             deep = bank.make(2, deep, 0, 0);
@@ -97,48 +88,6 @@ public final class ActPromisesTest {
         Checks.due("depth 6", bank.term(six, 4), 6);
         refused("depth 7 is FULL", bank, () -> bank.make(2, six, 0, 0), -3, 2);
         refused("also as one of three", bank, () -> bank.make(3, 0, 0, six), -3, 2);
-    }
-
-    /** 400 terms: eight variables, then f of three of them. */
-    private static TermBank fullBank() {
-        TermBank bank = Checks.bankOf("symbol f 3 1;symbol g 1 1;");
-        for (int v = 0; v < 8; v++) {
-            bank.variable(v);
-        }
-        for (int k = 0; k < 392; k++) {
-            bank.make(0, k / 64, k / 8 % 8, k % 8);
-        }
-        return bank;
-    }
-
-    private static void fullOfTerms() {
-        TermBank bank = fullBank();
-        Checks.due("400 terms", bank.count(1), 400);
-        Checks.due("f(?0,?0,?0)", bank.make(0, 0, 0, 0), 8);
-        Checks.due("f(?6,?0,?7)", bank.make(0, 6, 0, 7), 399);
-        refused("f(?6,?1,?0)", bank, () -> bank.make(0, 6, 1, 0), -3, 2);
-        refused("g(?0)", bank, () -> bank.make(1, 0, 0, 0), -3, 2);
-        refused("put", bank, () -> bank.put(8, 2, 8), -3, 2);
-        bank.bind(0, 8 + 73);
-        refused("f(?0,?0,?0) applied", bank, () -> bank.apply(8), -3, 2);
-        refused("f(?0,?0,?0) closed", bank, () -> bank.close(8), -3, 2);
-        Checks.due("what is there can be applied", bank.apply(0), 81);
-        Checks.due("undone", bank.undo(), 39);
-        bank.bind(0, -1);
-        refused("drawn", bank, () -> bank.draw(1, 4), -3, 2);
-        int[] before = state(bank);
-        for (int what = 0; what < 3; what++) {
-            Checks.due("years that are FULL", bank.years(1, 20, what), -1);
-        }
-        int[] after = state(bank);
-        for (int k = 0; k < before.length; k++) {
-            Checks.due("years change nothing, number " + k, after[k], before[k]);
-        }
-        TermBank variables = fullBank();
-        for (int k = 0; k < 40; k++) {
-            variables.undo();
-        }
-        Checks.due("40 acts back", variables.count(1), 360);
     }
 
     private static void binds() {
@@ -152,9 +101,6 @@ public final class ActPromisesTest {
         refused("no such term", bank, () -> bank.bind(3, 9), -2, 1);
         refused("no such variable", bank, () -> bank.bind(8, 0), -2, 1);
         refused("term -2", bank, () -> bank.bind(0, -2), -2, 1);
-        for (int wrong : WRONG) {
-            refused("bind(" + wrong + ", 0)", bank, () -> bank.bind(wrong, 0), -2, 1);
-        }
         Checks.due("none any more", bank.bind(0, -1), 2);
         Checks.due("bound no more", bank.bound(0), -1);
         Checks.due("a variable to itself", bank.bind(0, 0), -1);
@@ -177,9 +123,6 @@ public final class ActPromisesTest {
         bank.bind(0, 0);
         Checks.due("bound to itself", bank.apply(5), 5);
         refused("no such term", bank, () -> bank.apply(11), -1, 1);
-        for (int wrong : WRONG) {
-            refused("apply(" + wrong + ")", bank, () -> bank.apply(wrong), -1, 1);
-        }
         bank.bind(0, 5);
         int five = bank.apply(5);
         Checks.due("depth 5", bank.term(five, 4), 5);
@@ -207,9 +150,6 @@ public final class ActPromisesTest {
         bank.bind(3, 7);
         refused("a variable bound to itself is a RING", bank, () -> bank.close(8), -2, 3);
         refused("no such term", bank, () -> bank.close(12), -1, 1);
-        for (int wrong : WRONG) {
-            refused("close(" + wrong + ")", bank, () -> bank.close(wrong), -1, 1);
-        }
         TermBank chain = Checks.bankOf("symbol g 1 1;symbol a 0 1;term g(g(g(g(g(a)))));");
         for (int v = 0; v < 8; v++) {
             chain.variable(v);
@@ -244,10 +184,6 @@ public final class ActPromisesTest {
         refused("g(?0), g(g(?0)): a RING", bank, () -> bank.unify(4, 5), 2, 3);
         Checks.due("two like terms", bank.unify(3, 3), 1);
         refused("no such term", bank, () -> bank.unify(0, 9), -1, 1);
-        for (int wrong : WRONG) {
-            refused("unify(" + wrong + ", 0)", bank, () -> bank.unify(wrong, 0), -1, 1);
-            refused("unify(0, " + wrong + ")", bank, () -> bank.unify(0, wrong), -1, 1);
-        }
     }
 
     private static void unifiesVariables() {
@@ -326,10 +262,6 @@ public final class ActPromisesTest {
         Checks.due("then none are bound", bank.bound(0), -1);
         refused("a constant isn't a variable", bank, () -> bank.match(1, 0), 0, 3);
         refused("no such term", bank, () -> bank.match(0, 10), -1, 1);
-        for (int wrong : WRONG) {
-            refused("match(" + wrong + ", 0)", bank, () -> bank.match(wrong, 0), -1, 1);
-            refused("match(0, " + wrong + ")", bank, () -> bank.match(0, wrong), -1, 1);
-        }
     }
 
     private static void commons() {
@@ -345,10 +277,6 @@ public final class ActPromisesTest {
         Checks.due("f(?1,?1) with itself: f(?0,?0)", bank.common(8, 8), 11);
         Checks.due("unlike ones: ?0", bank.common(1, 3), 0);
         refused("no such term", bank, () -> bank.common(0, 12), -1, 1);
-        for (int wrong : WRONG) {
-            refused("common(" + wrong + ", 0)", bank, () -> bank.common(wrong, 0), -1, 1);
-            refused("common(0, " + wrong + ")", bank, () -> bank.common(0, wrong), -1, 1);
-        }
         TermBank order = Checks.bankOf(PLAIN + "term f(a,b);term f(b,a);");
         int made = order.common(2, 3);
         Checks.due("couples are in order: f(?0,?1)", order.term(order.argument(made, 1), 1), 1);
@@ -384,9 +312,6 @@ public final class ActPromisesTest {
         Checks.due("no more STEPS", bank.count(7), 1);
         Checks.due("no step in it", bank.normal(8), 8);
         refused("no such term", bank, () -> bank.normal(9), -1, 1);
-        for (int wrong : WRONG) {
-            refused("normal(" + wrong + ")", bank, () -> bank.normal(wrong), -1, 1);
-        }
         TermBank first = Checks.bankOf("symbol a 0 1;symbol b 0 1;symbol g 1 1;rule g(b) to a;rule g(?0) to ?0;rule b to a;"
             + "term g(g(b));");
         // b is a first, so g(b) never matches: g(a) is a, and again.
@@ -479,11 +404,6 @@ public final class ActPromisesTest {
         refused("no such place", bank, () -> bank.put(3, 4, 0), -1, 1);
         refused("no such term", bank, () -> bank.put(13, 0, 0), -1, 1);
         refused("no such other", bank, () -> bank.put(0, 0, 13), -1, 1);
-        for (int wrong : WRONG) {
-            refused("put(" + wrong + ", 0, 0)", bank, () -> bank.put(wrong, 0, 0), -1, 1);
-            refused("put(3, " + wrong + ", 0)", bank, () -> bank.put(3, wrong, 0), -1, 1);
-            refused("put(3, 0, " + wrong + ")", bank, () -> bank.put(3, 0, wrong), -1, 1);
-        }
         int five = bank.put(11, 4, 4);
         Checks.due("depth 6", bank.term(bank.put(five, 5, 4), 4), 6);
         int six = bank.put(five, 5, 4);
@@ -499,10 +419,6 @@ public final class ActPromisesTest {
         refused("a VARIABLE of the right side only", bank, () -> bank.rules(3, 7), -1, 1);
         refused("no such left", bank, () -> bank.rules(9, 0), -1, 1);
         refused("no such right", bank, () -> bank.rules(5, 9), -1, 1);
-        for (int wrong : WRONG) {
-            refused("rules(" + wrong + ", 0)", bank, () -> bank.rules(wrong, 0), -1, 1);
-            refused("rules(5, " + wrong + ")", bank, () -> bank.rules(5, wrong), -1, 1);
-        }
         Checks.due("memo is there", bank.count(5), 2);
         Checks.due("g(a) to a", bank.rules(2, 1), 3);
         Checks.due("memo is empty", bank.count(5), 0);
@@ -536,10 +452,6 @@ public final class ActPromisesTest {
         refused("none to leave", bank, () -> bank.leave(3), -1, 1);
         refused("no such term enters", bank, () -> bank.enter(9), -1, 1);
         refused("no such term leaves", bank, () -> bank.leave(9), -1, 1);
-        for (int wrong : WRONG) {
-            refused("enter(" + wrong + ")", bank, () -> bank.enter(wrong), -1, 1);
-            refused("leave(" + wrong + ")", bank, () -> bank.leave(wrong), -1, 1);
-        }
         Checks.due("enter(3)", bank.enter(3), 3);
         Checks.due("which it is", bank.term(3, 8), 2);
         Checks.due("leave(8)", bank.leave(8), 2);
@@ -562,9 +474,6 @@ public final class ActPromisesTest {
         TermBank bank = Checks.bankOf(BASE);
         bank.normal(5);
         refused("room(10)", bank, () -> bank.room(10), -1, 1);
-        for (int wrong : WRONG) {
-            refused("room(" + wrong + ")", bank, () -> bank.room(wrong), -1, 1);
-        }
         Checks.due("memo is there", bank.count(5), 2);
         Checks.due("room(9)", bank.room(9), 3);
         Checks.due("memo is empty", bank.count(5), 0);
@@ -583,22 +492,19 @@ public final class ActPromisesTest {
         TermBank empty = new TermBank();
         refused("depth 0", empty, () -> empty.draw(1, 0), -1, 1);
         refused("depth 5", empty, () -> empty.draw(1, 5), -1, 1);
-        for (int wrong : WRONG) {
-            refused("draw(1, " + wrong + ")", empty, () -> empty.draw(1, wrong), -1, 1);
-        }
         for (int seed = -5; seed < 60; seed += 7) {
             int second = (seed * 1103515245 + 12345) * 1103515245 + 12345;
             int variable = (second >>> 16 & 0x7fff) % 3;
             Checks.due("the second DRAW is the variable", empty.term(empty.draw(seed, 1 + (seed & 3)), 1), variable);
         }
-        TermBank bank = Checks.bankOf("symbol a 0 1;symbol f 2 2;symbol g 1 1;");
         for (int seed = 0; seed < 100; seed++) {
-            int term = bank.draw(seed * 77777, 1 + seed % 4);
+            TermBank bank = Checks.bankOf("symbol a 0 1;symbol f 2 2;symbol g 1 1;");
+            String drawn = told(bank, bank.draw(seed * 77777, 1 + seed % 4));
             StringBuilder text = new StringBuilder();
             drawnText(new int[] {seed * 77777}, 1 + seed % 4, text);
-            Checks.due("drawn " + text + ", told " + told(bank, term), text.toString().equals(told(bank, term)) ? 1 : 0, 1);
+            Checks.due("drawn " + text + ", told " + drawn, text.toString().equals(drawn) ? 1 : 0, 1);
+            Checks.due("acts", bank.count(11), 1);
         }
-        Checks.due("acts", bank.count(11), 40);
     }
 
     private static int next(int[] seed, int n) {

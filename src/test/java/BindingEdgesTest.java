@@ -253,6 +253,45 @@ public final class BindingEdgesTest {
         Checks.due("a RING of eight", eight.close(0), -2);
         eight.bind(7, -1);
         Twins.same("a row of eight", text(eight, eight.close(0)), "?7");
+        closedRingsFarOff();
+        closedDeepest();
+    }
+
+    /** A RING that isn't in the TERM but is led to, by any VARIABLE, beside any other one. */
+    private static void closedRingsFarOff() {
+        for (int v = 0; v < 8; v++) {
+            for (int w = 0; w < 8; w++) {
+                if (v != w) {
+                    TermBank bank = with("f(?" + v + ",?" + w + ")", "f(?" + w + ",?" + v + ")", "a");
+                    bank.bind(6, -1);
+                    int ring = made(bank, "?" + w);
+                    bank.bind(w, ring);
+                    Checks.due("a RING beside ?" + v, bank.close(made(bank, "f(?" + v + ",?" + w + ")")), -2);
+                    bank.bind(v, made(bank, "a"));
+                    Checks.due("a RING beside a", bank.close(made(bank, "f(?" + v + ",?" + w + ")")), -2);
+                    Checks.due("a RING ahead of a", bank.close(made(bank, "f(?" + w + ",?" + v + ")")), -2);
+                    bank.bind(v, ring);
+                    Checks.due("a RING by ?" + v + ", ?" + w, bank.close(made(bank, "?" + v)), -2);
+                    bank.bind(w, -1);
+                    Checks.due("no RING any more", bank.close(made(bank, "?" + v)), ring);
+                }
+            }
+        }
+    }
+
+    /** The deepest TERM, and the longest row of BINDINGS behind it, by each ARGUMENT. */
+    private static void closedDeepest() {
+        String[] texts = {"g(g(g(g(g(?0)))))", "f(a,f(a,f(a,f(a,f(a,?0)))))", "f(f(f(f(f(?0,a),a),a),a),a)",
+            "h(a,a,h(a,a,h(a,a,h(a,a,h(a,a,?0)))))", "h(a,h(a,h(a,h(a,h(a,?0,a),a),a),a),a)"};
+        for (String deep : texts) {
+            TermBank bank = with(deep, "b");
+            for (int v = 0; v < 7; v++) {
+                bank.bind(v, made(bank, "?" + (v + 1)));
+            }
+            Twins.same("closed by seven", text(bank, bank.close(made(bank, deep))), deep.replace("?0", "?7"));
+            bank.bind(7, made(bank, "b"));
+            Twins.same("closed by eight", text(bank, bank.close(made(bank, deep))), deep.replace("?0", "b"));
+        }
     }
 
     /** Promise 21 and on: "NONE (STATUS 1): no such TERM (as of all ACTS below)" */
@@ -414,6 +453,19 @@ public final class BindingEdgesTest {
         binds("f(?0,?1)", "f(h(?1,a,?1),h(a,b,c))", "h(h(a,b,c),a,h(a,b,c))", "h(a,b,c)");
         binds("f(?0,?1)", "f(h(?2,?1,?3),g(a))", "h(?2,g(a),?3)", "g(a)");
         binds("f(?0,?1)", "f(h(?2,?3,?1),g(b))", "h(?2,?3,g(b))", "g(b)");
+        // What must be made is 6 deep, by each ARGUMENT; one more would be FULL.
+        String[][] deep = {{"g(g(g(g(", "))))"}, {"f(a,f(a,f(a,f(a,", "))))"}, {"f(f(f(f(", ",a),a),a),a)"},
+            {"h(a,a,h(a,a,h(a,a,h(a,a,", "))))"}, {"h(a,h(a,h(a,h(a,", ",a),a),a),a)"}};
+        for (String[] round : deep) {
+            binds("f(?0,?1)", "f(" + round[0] + "?1" + round[1] + ",g(a))", round[0] + "g(a)" + round[1], "g(a)");
+            binds("f(?1,?0)", "f(g(a)," + round[0] + "?1" + round[1] + ")", round[0] + "g(a)" + round[1], "g(a)");
+            String s = "f(?0,?1)";
+            String t = "f(" + round[0] + "?1" + round[1] + ",g(g(a)))";
+            TermBank bank = with(s, t);
+            int left = made(bank, s);
+            int right = made(bank, t);
+            Twins.refused(s + " with " + t, () -> with(s, t), b -> b.unify(left, right), -3, 2);
+        }
     }
 
     private static void matchedRefused() {
@@ -512,6 +564,13 @@ public final class BindingEdgesTest {
         common("h(g(a),f(a,b),?7)", "h(g(b),f(b,b),?7)", "h(g(?0),f(?0,b),?1)");
         common("h(f(?1,?2),?1,?2)", "h(f(a,b),a,b)", "h(f(?0,?1),?0,?1)");
         common("f(a,a)", "g(a)", "?0");
+        // Each call has couples of its own.
+        TermBank bank = with("f(a,b)", "f(b,a)", "f(c,a)", "f(?3,b)", "h(a,b,c)", "h(b,c,a)");
+        Twins.same("f(a,b), f(b,a)", text(bank, bank.common(made(bank, "f(a,b)"), made(bank, "f(b,a)"))), "f(?0,?1)");
+        Twins.same("h(a,b,c), h(b,c,a)", text(bank, bank.common(made(bank, "h(a,b,c)"), made(bank, "h(b,c,a)"))), "h(?0,?1,?2)");
+        Twins.same("f(c,a), f(?3,b)", text(bank, bank.common(made(bank, "f(c,a)"), made(bank, "f(?3,b)"))), "f(?0,?1)");
+        Twins.same("f(a,b), f(c,a)", text(bank, bank.common(made(bank, "f(a,b)"), made(bank, "f(c,a)"))), "f(?0,?1)");
+        Twins.same("f(b,a), f(a,b)", text(bank, bank.common(made(bank, "f(b,a)"), made(bank, "f(a,b)"))), "f(?0,?1)");
     }
 
     private static final String LEFT = "h(h(?0,?1,?2),h(?3,?4,?5),h(?6,?7,";

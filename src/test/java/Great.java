@@ -45,15 +45,4 @@ final class Great {
         Checks.due("terms of the great bank", bank.count(1), n);
         return bank;
     }
-
-    /** Makes the last term again, of its symbol and arguments. */
-    static int again(TermBank bank) {
-        int last = bank.count(1) - 1;
-        int symbol = bank.term(last, 0);
-        int arity = bank.symbol(symbol, 1);
-        int a = arity > 0 ? bank.argument(last, 0) : 0;
-        int b = arity > 1 ? bank.argument(last, 1) : 0;
-        int c = arity > 2 ? bank.argument(last, 2) : 0;
-        return bank.make(symbol, a, b, c);
-    }
 }

@@ -24,11 +24,14 @@ public final class KeepingEdgesTest {
         yearsAsked();
         yearsOfSeeds();
         yearsUseTheMemo();
+        yearsOfTheFirstTerm();
         yearsTooMuch();
         imageChangesNothing();
         restoreNone();
         restoreAll();
         restoreOfFortyActs();
+        restoreOfTerms();
+        faultKeepsTerms();
         imageInPlaceOfAnother();
         imageIsGoneByBank();
         Checks.end();
@@ -464,6 +467,17 @@ public final class KeepingEdgesTest {
         Checks.due("none of them stays", bank.count(6) * 10 + bank.count(7), 1);
     }
 
+    /** The first TERM of all may be drawn, too: b, which gets a. */
+    private static void yearsOfTheFirstTerm() {
+        TermBank bank = told("symbol b 0 5;symbol a 0 1;rule b to a;");
+        int seed = Seeds.of(8, 1, 2, 0);
+        Checks.due("b is the first TERM", bank.rule(0, 0), 0);
+        Checks.due("WEIGHT lost", bank.years(seed, 1, 0), 4);
+        Checks.due("STEPS", bank.years(seed, 1, 2), 1);
+        bank.normal(0);
+        Checks.due("HITS", bank.years(seed, 1, 1), 1);
+    }
+
     private static final String CHAIN = "symbol a 3 1;symbol b 3 1;symbol c 3 1;symbol d 3 1;symbol e 3 1;rule e(?0,?1,?2) to d(?0,?1,?2);"
         + "rule d(?0,?1,?2) to c(?0,?1,?2);rule c(?0,?1,?2) to b(?0,?1,?2);rule b(?0,?1,?2) to a(?0,?1,?2);room 0;";
 
@@ -578,6 +592,55 @@ public final class KeepingEdgesTest {
                 Checks.due("restored again", bank.restore() ? bank.count(11) : -1, kept);
             }
         }
+    }
+
+    private static final String MANY = "symbol g 1 7;symbol f 2 3;symbol h 3 1;symbol a 0 2;term ?0;";
+
+    /** Terms of other heads, weights, depths, variables come where those of the image were. */
+    private static void restoreOfTerms() {
+        Twins.Build build = () -> {
+            TermBank bank = told(MANY);
+            int t = 0;
+            for (int v = 1; v < 5; v++) {
+                bank.variable(v);
+                t = bank.make(v % 2, t, v, 0);
+            }
+            return bank;
+        };
+        TermBank bank = build.bank();
+        TermBank twin = build.bank();
+        bank.image();
+        for (int k = 0; k < 8; k++) {
+            bank.undo();
+        }
+        for (int v = 7; v > 0; v--) {
+            bank.variable(v);
+        }
+        bank.make(2, 3, 4, 5);
+        bank.make(0, 8, 0, 0);
+        bank.make(1, 9, 9, 0);
+        Checks.due("restore()", bank.restore() ? 1 : 0, 1);
+        Twins.sameTerms("restored", bank, twin);
+    }
+
+    /** "the FAULT (all stays, but STATUS)": what the text told up to its FAULT was read into nothing. */
+    private static void faultKeepsTerms() {
+        Twins.Build build = () -> {
+            TermBank bank = told(MANY);
+            bank.variable(6);
+            bank.make(2, bank.make(3, 0, 0, 0), 1, 0);
+            bank.make(0, 3, 0, 0);
+            bank.rules(4, 2);
+            bank.enter(3);
+            return bank;
+        };
+        TermBank bank = build.bank();
+        TermBank twin = build.bank();
+        Checks.due("a FAULT", Checks.told(bank, "symbol a 1 1;symbol h 0 9;symbol g 2 4;term h;term a(h);term ?7;term ?6;term g(a(h),?0);entry h;"
+            + "term g(g(?1,?2),?3);!"), 1);
+        Twins.sameTerms("behind a FAULT", bank, twin);
+        Twins.same("symbols", Twins.told(bank), Twins.told(twin));
+        Checks.due("acts come as before", bank.normal(4), 2);
     }
 
     /** Promise 33: "in place of another one" */

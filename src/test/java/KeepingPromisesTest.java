@@ -37,9 +37,8 @@ public final class KeepingPromisesTest {
         for (int i = 0; i < bank.count(5); i++) {
             text.append(bank.memo(i, 0)).append('=').append(bank.memo(i, 1)).append(' ');
         }
-        for (int t = 0; t < bank.count(1); t++) {
-            text.append(bank.term(t, 0)).append('/').append(bank.term(t, 1)).append('/').append(bank.term(t, 7)).append(' ');
-        }
+        int last = bank.count(1) - 1;
+        text.append(bank.term(last, 0)).append('/').append(bank.term(last, 1)).append('/').append(bank.term(last, 7));
         return text.toString();
     }
 
@@ -47,41 +46,25 @@ public final class KeepingPromisesTest {
         Checks.due(what + ": " + got + " for " + want, got.equals(want) ? 1 : 0, 1);
     }
 
-    private static void undone(String what, TermBank bank, Checks.Call call) {
-        String before = state(bank);
-        int status = bank.count(13) + bank.count(14) + bank.count(15) + bank.count(16);
-        int acts = bank.count(11);
-        Checks.due(what + " is an act", Checks.answer(call) >= -1 && bank.count(11) == acts + 1 ? 1 : 0, 1);
-        Checks.due(what + " is undone", bank.undo(), acts);
-        same(what, state(bank), before);
-        Checks.due("no STATUS by it", bank.count(13) + bank.count(14) + bank.count(15) + bank.count(16), status);
-        Checks.answer(call);
-    }
-
+    /** Each act in its turn behind the others, on objects of its own. */
     private static void undoEach() {
-        TermBank bank = Checks.bankOf(BASE);
-        Checks.due("none to undo", bank.undo(), -1);
-        undone("variable", bank, () -> bank.variable(5));
-        undone("variable that is there", bank, () -> bank.variable(5));
-        undone("make", bank, () -> bank.make(1, 5, 5, 0));
-        undone("bind", bank, () -> bank.bind(0, 2));
-        undone("bind again", bank, () -> bank.bind(0, 4));
-        undone("apply", bank, () -> bank.apply(3));
-        undone("bind to none", bank, () -> bank.bind(0, -1));
-        undone("close", bank, () -> bank.close(3));
-        undone("unify", bank, () -> bank.unify(3, 8));
-        undone("match", bank, () -> bank.match(4, 5));
-        undone("common", bank, () -> bank.common(3, 8));
-        undone("normal", bank, () -> bank.normal(5));
-        undone("normal again, a HIT", bank, () -> bank.normal(5));
-        undone("put", bank, () -> bank.put(3, 3, 5));
-        undone("rules", bank, () -> bank.rules(2, 1));
-        undone("enter", bank, () -> bank.enter(3));
-        undone("leave", bank, () -> bank.leave(8));
-        undone("normal by three rules", bank, () -> bank.normal(3));
-        undone("room", bank, () -> bank.room(0));
-        undone("room as it is", bank, () -> bank.room(0));
-        undone("draw", bank, () -> bank.draw(99, 4));
+        Twins.asked("none to undo", () -> Checks.bankOf(BASE), TermBank::undo, -1);
+        Twins.Call[] calls = {bank -> bank.variable(5), bank -> bank.variable(5), bank -> bank.make(1, 5, 5, 0), bank -> bank.bind(0, 2),
+            bank -> bank.bind(0, 4), bank -> bank.apply(3), bank -> bank.bind(0, -1), bank -> bank.close(3), bank -> bank.unify(3, 8),
+            bank -> bank.match(4, 5), bank -> bank.common(3, 8), bank -> bank.normal(5), bank -> bank.normal(5),
+            bank -> bank.put(3, 3, 5), bank -> bank.rules(2, 1), bank -> bank.enter(3), bank -> bank.leave(8), bank -> bank.normal(3),
+            bank -> bank.room(0), bank -> bank.room(0), bank -> bank.draw(99, 4)};
+        for (int k = 0; k < calls.length; k++) {
+            int turn = k;
+            Twins.Build build = () -> {
+                TermBank bank = Checks.bankOf(BASE);
+                for (int before = 0; before < turn; before++) {
+                    calls[before].of(bank);
+                }
+                return bank;
+            };
+            Twins.acted("act " + k, build, calls[k], calls[k].of(build.bank()));
+        }
     }
 
     private static void undoOrder() {
@@ -217,10 +200,10 @@ public final class KeepingPromisesTest {
     }
 
     private static void yearsTooMuch() {
-        TermBank bank = Checks.bankOf("symbol a 3 1;symbol b 3 1;symbol c 3 1;symbol f 3 1;rule f(?0,?1,?2) to c(?0,?1,?2);"
-            + "rule c(?0,?1,?2) to b(?0,?1,?2);rule b(?0,?1,?2) to a(?0,?1,?2);room 0;");
         int none = 0;
         for (int seed = 0; seed < 60; seed++) {
+            TermBank bank = Checks.bankOf("symbol a 3 1;symbol b 3 1;symbol c 3 1;symbol f 3 1;rule f(?0,?1,?2) to c(?0,?1,?2);"
+                + "rule c(?0,?1,?2) to b(?0,?1,?2);rule b(?0,?1,?2) to a(?0,?1,?2);room 0;");
             int steps = bank.years(seed, 20, 2);
             int before = 0;
             for (int n = 0; n <= 20; n++) {
@@ -234,10 +217,10 @@ public final class KeepingPromisesTest {
                 Checks.due("NONE for weight", bank.years(seed, 20, 0), -1);
                 Checks.due("NONE for HITS", bank.years(seed, 20, 1), -1);
             }
+            Checks.due("no STATUS", bank.count(15), 0);
+            Checks.due("no STEPS", bank.count(7), 0);
         }
         Checks.due("some are TOO MUCH, some aren't: " + none, none > 0 && none < 60 ? 1 : 0, 1);
-        Checks.due("no STATUS", bank.count(15), 0);
-        Checks.due("no STEPS", bank.count(7), 0);
     }
 
     private static void images() {

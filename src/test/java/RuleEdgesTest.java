@@ -11,6 +11,7 @@ public final class RuleEdgesTest {
         rulesOfSizeTwelve();
         rulesEmptyTheMemo();
         fitsOfWeights();
+        fitsChangeNothing();
         meetingsOfRules();
         meetingsApart();
         meetingsFar();
@@ -27,6 +28,7 @@ public final class RuleEdgesTest {
         roomTold();
         hundredSteps();
         hundredStepsOfEachCall();
+        hundredStepsWithinOneAnother();
         tooMuchChangesNothing();
         entriesAsked();
         entriesTwelve();
@@ -189,6 +191,7 @@ public final class RuleEdgesTest {
         Checks.due("FITS of " + symbol + " by " + text, bank.symbol(symbol, 3), many);
         Checks.due("the least of " + symbol + " by " + text, bank.symbol(symbol, 4), least);
         Twins.same("nothing changes by it", Twins.picture(bank), before);
+        Checks.due("still so many", bank.symbol(symbol, 3), many);
         Checks.due("its WEIGHT is as ever", bank.symbol(symbol, 2), text.charAt(13 * symbol + 11) - '0');
     }
 
@@ -219,6 +222,29 @@ public final class RuleEdgesTest {
         fits("symbol f 2 1;symbol a 0 3;symbol b 0 5;rule f(b,a) to f(a,b);", 2, 7, 3);
         // The eighth RULE counts, too.
         fits("symbol a 0 1;symbol b 0 5;" + "rule b to a;".repeat(7) + "symbol c 0 3;rule b to c;", 1, 6, 4);
+    }
+
+    /** "all else as it is": what is GREATER, what is a RULE, is so by the WEIGHTS as they are, asked behind it. */
+    private static void fitsChangeNothing() {
+        for (int what = 3; what <= 4; what++) {
+            for (int symbol = 0; symbol < 3; symbol++) {
+                TermBank bank = told("symbol a 0 3;symbol b 0 4;symbol c 0 8;term a;term b;term c;");
+                bank.symbol(symbol, what);
+                Checks.due("b is GREATER than a", bank.order(1, 0), 1);
+                Checks.due("c is GREATER than b", bank.order(2, 1), 1);
+                bank.symbol(symbol, what);
+                Checks.due("no RULE a to b", bank.rules(0, 1), -1);
+                Checks.due("no RULE b to c", bank.rules(1, 2), -1);
+                bank.symbol(symbol, what);
+                Checks.due("a RULE b to a", bank.rules(1, 0), 1);
+                bank.symbol(symbol, what);
+                Checks.due("a RULE c to b", bank.rules(2, 1), 2);
+                bank.symbol(symbol, what);
+                Checks.due("a text's RULE", Checks.told(bank, "symbol a 0 3;symbol b 0 4;symbol c 0 8;rule b to a;rule c to b;"), 0);
+                bank.symbol(symbol, what);
+                Checks.due("no text's RULE", Checks.told(bank, "symbol a 0 3;symbol b 0 4;rule a to b;"), 5);
+            }
+        }
     }
 
     private static void meetings(String text, int many, int first) {
@@ -556,6 +582,53 @@ public final class RuleEdgesTest {
         bank.room(9);
         Checks.due("with a MEMO it isn't TOO MUCH", bank.normal(other) >= 0 ? 1 : 0, 1);
         Checks.due("one STEP", bank.count(7), 601);
+    }
+
+    /** Seven digits, a for 0 and b for 1, or VARIABLES, as one TERM of f and q. */
+    private static String form(String digits) {
+        String[] parts = new String[7];
+        int at = 0;
+        for (int k = 0; k < 7; k++) {
+            parts[k] = digits.charAt(at) == '?' ? digits.substring(at, at + 2) : digits.substring(at, at + 1);
+            at += parts[k].length();
+        }
+        return "f(" + parts[0] + "," + parts[1] + ",q(" + parts[2] + "," + parts[3] + ",q(" + parts[4] + "," + parts[5] + "," + parts[6] + ")))";
+    }
+
+    /** By seven RULES each STEP makes a number one less, and its RIGHT makes the next STEP. */
+    private static TermBank counter() {
+        StringBuilder text = new StringBuilder("symbol a 0 1;symbol b 0 1;symbol q 3 1;symbol f 3 1;");
+        for (int low = 0; low < 7; low++) {
+            String high = "?0?1?2?3?4?5".substring(0, 2 * (6 - low));
+            text.append("rule ").append(form(high + "b" + "a".repeat(low))).append(" to ");
+            text.append(form(high + "a" + "b".repeat(low))).append(';');
+        }
+        return told(text.append("room 0;").toString());
+    }
+
+    private static int numbered(TermBank bank, int number) {
+        int[] d = new int[7];
+        for (int k = 0; k < 7; k++) {
+            d[k] = bank.make(number >> (6 - k) & 1, 0, 0, 0);
+        }
+        return bank.make(3, d[0], d[1], bank.make(2, d[2], d[3], bank.make(2, d[4], d[5], d[6])));
+    }
+
+    /** 100 STEPS of which each is made within the one before. */
+    private static void hundredStepsWithinOneAnother() {
+        for (int number : new int[] {0, 1, 2, 64, 99, 100}) {
+            TermBank bank = counter();
+            Checks.due("counted down from " + number, bank.normal(numbered(bank, number)), numbered(bank, 0));
+            Checks.due("STEPS", bank.count(7), number);
+        }
+        for (int number : new int[] {101, 127}) {
+            int term = numbered(counter(), number);
+            Twins.refused("counted down from " + number, () -> {
+                TermBank bank = counter();
+                numbered(bank, number);
+                return bank;
+            }, bank -> bank.normal(term), -2, 2);
+        }
     }
 
     /** "What .. is .. TOO MUCH .. changes nothing (but STATUS)": MEMO and its order, HITS, STEPS, TERMS stay. */

@@ -15,12 +15,14 @@ public final class TermEdgesTest {
         sizesAndShares();
         usersOfTerms();
         shapes();
+        shapesOfManyTerms();
         variablesMade();
         termsMade();
         argumentsNotLookedAt();
         likeTermsAreOne();
         depthOfMade();
         depthOfApplied();
+        depthOfEachArgument();
         depthOfClosed();
         depthOfUnified();
         depthOfNormal();
@@ -220,10 +222,47 @@ public final class TermEdgesTest {
         Checks.due("of the shape of f(g(a),?)", bank.find(bank.entry(1), 3), 3);
         Checks.due("of the shape of f(g(?),?)", bank.find(bank.make(0, bank.make(2, y, 0, 0), y, 0), 3), 4);
         Checks.due("of no entry's", bank.find(a, 3), 0);
+        // A constant that came ahead of all VARIABLES has another SHAPE than they, whatever its number is.
+        TermBank first = Checks.bankOf("symbol a 0 1;symbol b 0 1;term a;term b;entry ?3;entry a;entry ?0;entry b;");
+        Checks.due("a; b; ?", first.count(8), 3);
+        Checks.due("of a's", first.find(0, 3), 2);
+        Checks.due("of b's", first.find(1, 3), 8);
+        Checks.due("of a VARIABLE's", first.find(first.entry(2), 3), 5);
+    }
+
+    /** Of a, b, c, ?0, ?1 all three in h: with both VARIABLES as one 4 SHAPES, and 64 of h. */
+    private static void shapesOfManyTerms() {
+        TermBank bank = Checks.bankOf("symbol h 3 1;symbol a 0 1;symbol b 0 1;symbol c 0 1;term a;term b;term c;term ?0;term ?1;");
+        for (int k = 0; k < 125; k++) {
+            Checks.due("h no. " + k, bank.make(0, k / 25, k / 5 % 5, k % 5), 5 + k);
+        }
+        Checks.due("68 SHAPES", bank.count(8), 68);
+        bank.enter(5 + 18);
+        bank.enter(5 + 19);
+        bank.enter(5 + 93);
+        bank.enter(5 + 17);
+        Checks.due("h(a,?0,?1) is of the SHAPE of h(a,?0,?0)", bank.find(5 + 19, 3), 3);
+        Checks.due("h(?0,?0,?0) is of none other", bank.find(5 + 93, 3), 4);
+        Checks.due("h(a,?0,c)", bank.find(5 + 17, 3), 8);
+        // 36 terms go: those with ?1 first, whose SHAPES are there still, and with ?0 first, of which 4 are not.
+        for (int k = 0; k < 40; k++) {
+            bank.undo();
+        }
+        Checks.due("terms left", bank.count(1), 94);
+        Checks.due("SHAPES left", bank.count(8), 64);
     }
 
     /** "VARIABLES 0 to 7"; promise 16: "NONE (STATUS 1): no such VARIABLE." */
     private static void variablesMade() {
+        for (int v = 0; v < 8; v++) {
+            int variable = v;
+            Twins.acted("variable(" + v + ") of a new object", TermBank::new, bank -> bank.variable(variable), 0);
+            TermBank bank = new TermBank();
+            bank.variable(7 - v);
+            Checks.due("one TERM", bank.count(1), 1);
+            Checks.due("it is there", bank.variable(7 - v), 0);
+            Checks.due("the next one", bank.variable((v + 4) % 8 == 7 - v ? v : (v + 4) % 8), 1);
+        }
         for (int v = 2; v < 8; v++) {
             int variable = v;
             Twins.acted("variable(" + v + ")", TermEdgesTest::some, bank -> bank.variable(variable), 9);
@@ -337,6 +376,29 @@ public final class TermEdgesTest {
                     Twins.refused(what, () -> bound(depth), bank -> bank.apply(term), -3, 2);
                 }
             }
+        }
+    }
+
+    /** FULL in any of the ARGUMENTS, by what is APPLIED, CLOSED, put into a PLACE; ?0 has what is 3 deep. */
+    private static void depthOfEachArgument() {
+        String[] terms = {"g(g(g(g(?0))))", "f(?0,g(g(g(?0))))", "f(g(g(g(?0))),?0)", "h(?0,?0,g(g(g(?0))))", "h(?0,g(g(g(?0))),?0)",
+            "h(g(g(g(?0))),?0,?0)", "f(a,f(a,f(a,f(a,?0))))", "h(a,a,h(a,a,h(a,a,h(a,a,?0))))", "h(a,h(a,h(a,h(a,?0,a),a),a),a)"};
+        for (String told : terms) {
+            Twins.Build build = () -> {
+                TermBank bank = new TermBank();
+                Checks.told(bank, DEEP + "term g(g(a));term " + told + ";term g(" + told + ");");
+                bank.bind(0, bank.argument(2, 0));
+                return bank;
+            };
+            int last = build.bank().count(1) - 1;
+            Twins.Build deeper = () -> {
+                TermBank bank = build.bank();
+                bank.bind(0, 2);
+                return bank;
+            };
+            Twins.refused(told + " applied", build, bank -> bank.apply(last), -3, 2);
+            Twins.refused(told + " closed", build, bank -> bank.close(last), -3, 2);
+            Twins.refused(told + " applied to what is deeper", deeper, bank -> bank.apply(last - 1), -3, 2);
         }
     }
 
@@ -467,6 +529,7 @@ public final class TermEdgesTest {
         Checks.due("b is GREATER than a, 6 deep", bank.order(other, 5), 1);
         Checks.due("a isn't", bank.order(5, other), 2);
         Checks.due("?0 and a, 6 deep: neither", bank.order(5, 11), 3);
+        deepestWeighed();
         Checks.due("MATCH 6 deep", bank.match(11, other), 1);
         Checks.due("?0 is b", bank.bound(0), b);
         Checks.due("no MATCH 6 deep", bank.match(5, other), 0);
@@ -486,6 +549,25 @@ public final class TermEdgesTest {
         Checks.due("a STEP in it", bank.term(5, 9), 0);
         Checks.due("none in the other one", bank.term(other, 9), 1);
         Checks.due("SHARED", bank.term(other, 3), 6);
+    }
+
+    /** What stands at the 6th level is weighed, and its VARIABLES count. */
+    private static void deepestWeighed() {
+        TermBank bank = Checks.bankOf("symbol a 0 1;symbol b 0 1;symbol c 0 2;symbol g 1 1;symbol f 2 1;term f(a,g(g(g(g(c)))));"
+            + "term f(b,g(g(g(g(a)))));term f(c,g(g(g(g(a)))));term f(a,g(g(g(g(?0)))));");
+        int[] tops = new int[4];
+        int k = 0;
+        for (int t = 0; t < bank.count(1); t++) {
+            if (bank.term(t, 4) == 6) {
+                tops[k] = t;
+                k++;
+            }
+        }
+        Checks.due("four 6 deep", k, 4);
+        Checks.due("heavier at the 6th level alone", bank.order(tops[0], tops[1]), 1);
+        Checks.due("and back", bank.order(tops[1], tops[0]), 2);
+        Checks.due("heavier, but without the VARIABLE of the 6th level", bank.order(tops[2], tops[3]), 3);
+        Checks.due("WEIGHT", bank.term(tops[0], 5), 8);
     }
 
     /** "400 at most. FULL is what would need more TERMS": the 400th comes, the 401st doesn't. */
@@ -603,7 +685,7 @@ public final class TermEdgesTest {
     private static void fourHundredAndNoMore() {
         Twins.acted("variable(0)", () -> Great.of(400), bank -> bank.variable(0), 0);
         Twins.acted("make what is there", () -> Great.of(400), bank -> bank.make(Great.G, 0, 0, 0), Great.GZ);
-        Twins.acted("make the 400th again", () -> Great.of(400), Great::again, 399);
+        Twins.acted("make the 400th again", () -> Great.of(400), bank -> Twins.again(bank, 399), 399);
         Twins.acted("bind the 400th", () -> Great.of(400), bank -> bank.bind(2, 399), -1);
         Twins.refused("bind the 401st", () -> Great.of(400), bank -> bank.bind(2, 400), -2, 1);
         Twins.acted("a RULE", () -> Great.of(400), bank -> bank.rules(Great.S1, Great.ONE), 2);

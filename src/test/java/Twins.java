@@ -72,6 +72,33 @@ final class Twins {
         same(what + ", restored", brief(bank), brief(twin));
     }
 
+    /** All that is told of the last eight terms, which are found again when they are made again. */
+    static void sameTerms(String what, TermBank bank, TermBank twin) {
+        int terms = bank.count(1);
+        Checks.due(what + ": terms", terms, twin.count(1));
+        for (int t = Math.max(terms - 8, 0); t < terms; t++) {
+            for (int asked = 0; asked < 10; asked++) {
+                Checks.due(what + ": term(" + t + ", " + asked + ")", bank.term(t, asked), twin.term(t, asked));
+            }
+            Checks.due(what + ": made again", again(bank, t), t);
+        }
+        Checks.due(what + ": none came", bank.count(1), terms);
+        Checks.due(what + ": SHAPES", bank.count(8), twin.count(8));
+    }
+
+    /** Makes a term again, of what it is made of. */
+    static int again(TermBank bank, int term) {
+        int symbol = bank.term(term, 0);
+        if (symbol < 0) {
+            return bank.variable(bank.term(term, 1));
+        }
+        int arity = bank.symbol(symbol, 1);
+        int a = arity > 0 ? bank.argument(term, 0) : 0;
+        int b = arity > 1 ? bank.argument(term, 1) : 0;
+        int c = arity > 2 ? bank.argument(term, 2) : 0;
+        return bank.make(symbol, a, b, c);
+    }
+
     static void same(String what, String got, String want) {
         Checks.due(got.equals(want) ? what : what + ": it is\n" + got + "\ndue is\n" + want + "\n", got.equals(want) ? 1 : 0, 1);
     }
