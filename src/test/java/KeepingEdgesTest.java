@@ -34,6 +34,7 @@ public final class KeepingEdgesTest {
         faultKeepsTerms();
         imageInPlaceOfAnother();
         imageIsGoneByBank();
+        fiveHundredCalls();
         Checks.end();
     }
 
@@ -676,5 +677,26 @@ public final class KeepingEdgesTest {
         for (int wrong : WRONG) {
             Checks.due("refused behind it", bank.variable(wrong), -1);
         }
+    }
+
+    /** "An object is used for at most 512 calls": the 512th is answered as any other one. */
+    private static void fiveHundredCalls() {
+        TermBank bank = told(SOME);
+        int asked = (SOME.length() + 19) / 20 + 1;
+        for (int k = asked; k < 509; k++) {
+            int call = k % 4;
+            if (call == 0) {
+                Checks.due("a MEETING", bank.count(9), 1);
+            } else if (call == 1) {
+                Checks.due("years", bank.years(0, 20, 2) >= 0 ? 1 : 0, 1);
+            } else if (call == 2) {
+                Checks.due("a VARIABLE", bank.variable(1), 7);
+            } else {
+                bank.image();
+            }
+        }
+        Checks.due("the 510th", bank.normal(5), 0);
+        Checks.due("the 511th", bank.undo(), 39);
+        Checks.due("the 512th", bank.count(1), 9);
     }
 }

@@ -250,6 +250,17 @@ public final class TermEdgesTest {
         }
         Checks.due("terms left", bank.count(1), 94);
         Checks.due("SHAPES left", bank.count(8), 64);
+        // Nine constants, all unlike ones, and 391 of h: as many SHAPES as TERMS.
+        StringBuilder text = new StringBuilder("symbol h 3 1;");
+        for (char name = 'i'; name < 'r'; name++) {
+            text.append("symbol ").append(name).append(" 0 1;term ").append(name).append(';');
+        }
+        TermBank all = Checks.bankOf(text.toString());
+        for (int k = 0; k < 391; k++) {
+            all.make(0, k % 9, k / 9 % 9, k / 81);
+        }
+        Checks.due("400 TERMS", all.count(1), 400);
+        Checks.due("400 SHAPES", all.count(8), 400);
     }
 
     /** "VARIABLES 0 to 7"; promise 16: "NONE (STATUS 1): no such VARIABLE." */

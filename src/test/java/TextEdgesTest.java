@@ -16,6 +16,7 @@ public final class TextEdgesTest {
         allAnew();
         allAnewOfTextItself();
         termsAsTheyCome();
+        blanksBetweenTokens();
         bytesThatAreTokens();
         bytesWithinWords();
         bytesBehindNumbers();
@@ -238,6 +239,28 @@ public final class TextEdgesTest {
         fine("symbol g 1 1;symbol f 2 1;rule f(g(?1),?0) to f(?1,?0);entry g(?0);term f(?0,?0);",
             "symbols g11 f21; terms ?1 g(0) ?0 f(1,2) f(0,2) g(2) f(2,2); rules 3>4; entries 5; room 4");
         fine("term ?7;term ?0;term ?7;", "symbols; terms ?7 ?0; rules; entries; room 4");
+    }
+
+    /** "blanks (32, 10) between them, which count for nothing": as many as can be, and none but between words, between NUMBERS. */
+    private static void blanksBetweenTokens() {
+        String[] tokens = {"symbol", "f", "2", "3", ";", "symbol", "a", "0", "1", ";", "rule", "f", "(", "?", "7", ",", "a", ")", "to", "?",
+            "7", ";", "entry", "f", "(", "f", "(", "a", ",", "?", "0", ")", ",", "?", "7", ")", ";", "room", "6", ";", "term", "?", "1", ";"};
+        String told = "symbols f23 a01; terms ?7 a f(0,1) ?0 f(1,3) f(4,0) ?1; rules 2>0; entries 5; room 6";
+        for (String blank : new String[] {" ", "\n", "  ", " \n", "\n\n\n"}) {
+            StringBuilder text = new StringBuilder();
+            for (String token : tokens) {
+                text.append(blank).append(token);
+            }
+            fine(text.toString(), told);
+            fine(text + blank, told);
+        }
+        fine("symbol f2 3;symbol a0 1;rule f(?7,a)to?7;entry f(f(a,?0),?7);room6;term?1;", told);
+        faulty("symbolf 2 3;", 1, 0);
+        faulty("symbol f 23;", 2, 9);
+        faulty("symbol f2 3;entryf(?0,?1);", 1, 12);
+        faulty("symbol f 2 3;ru le f(?0,?0) to ?0;", 1, 13);
+        faulty("symbol f 2 3;rule f(?0,?0) t o ?0;", 1, 27);
+        faulty("room 1 0;", 1, 7);
     }
 
     /** "words (a .. z ..), NUMBERS (0 .. 9 ..), signs ? ( ) , ; and blanks (32, 10)": behind a clause only a blank can stand. */
