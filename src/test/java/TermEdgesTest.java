@@ -250,14 +250,18 @@ public final class TermEdgesTest {
         }
         Checks.due("terms left", bank.count(1), 94);
         Checks.due("SHAPES left", bank.count(8), 64);
-        // Nine constants, all unlike ones, and 391 of h: as many SHAPES as TERMS.
-        StringBuilder text = new StringBuilder("symbol h 3 1;");
-        for (char name = 'i'; name < 'r'; name++) {
+        // Eight constants, 300 of h, and g of some of them: as many SHAPES as TERMS.
+        StringBuilder text = new StringBuilder("symbol h 3 1;symbol g 1 1;");
+        for (char name = 'i'; name < 'q'; name++) {
             text.append("symbol ").append(name).append(" 0 1;term ").append(name).append(';');
         }
         TermBank all = Checks.bankOf(text.toString());
-        for (int k = 0; k < 391; k++) {
-            all.make(0, k % 9, k / 9 % 9, k / 81);
+        for (int k = 0; k < 300; k++) {
+            all.make(0, k % 8, k / 8 % 8, k / 64);
+        }
+        for (int k = 0; k < 46; k++) {
+            all.make(1, k, 0, 0);
+            all.make(1, 240 + k, 0, 0);
         }
         Checks.due("400 TERMS", all.count(1), 400);
         Checks.due("400 SHAPES", all.count(8), 400);
