@@ -29,6 +29,7 @@ public final class RuleEdgesTest {
         hundredSteps();
         hundredStepsOfEachCall();
         hundredStepsWithinOneAnother();
+        stepsFarWithinOneAnother();
         tooMuchChangesNothing();
         entriesAsked();
         entriesTwelve();
@@ -629,6 +630,40 @@ public final class RuleEdgesTest {
                 return bank;
             }, bank -> bank.normal(term), -2, 2);
         }
+    }
+
+    /**
+     * 27 leaves, each taken in its turn: a STEP makes one less, a to b, b to c, and has the next STEP two TERMS deeper
+     * in its RIGHT; the first c that is met ends it. All are a, but for the six that are taken last: these are told.
+     */
+    private static TermBank turning(String more, String last) {
+        String leaf = "n(p(p(%s,?0,?1),?2,?3),?4,?5) to k(k(n(?4,?5,p(?2,?3,p(?0,?1,%s)))));";
+        StringBuilder text = new StringBuilder("symbol c 0 5;symbol b 0 7;symbol a 0 9;symbol p 3 1;symbol k 1 1;symbol n 3 1;room 0;");
+        text.append("rule ").append(String.format(leaf, "a", "b")).append("rule ").append(String.format(leaf, "b", "c")).append(more);
+        String between = "term n(";
+        for (int k = 0; k < 3; k++) {
+            text.append(between).append("p(p(a,a,a),p(a,a,").append(last.charAt(k)).append("),p(a,a,").append(last.charAt(k + 3)).append("))");
+            between = ",";
+        }
+        return told(text.append(");").toString());
+    }
+
+    /** "its RIGHT, APPLIED so, and NORMAL of that": STEPS within one another, each with TERMS of its own around it. */
+    private static void stepsFarWithinOneAnother() {
+        String away = "rule k(k(?0)) to ?0;";
+        String[] lasts = {"bbbbbb", "aabbbb"};
+        int[] steps = {96, 100};
+        for (int k = 0; k < 2; k++) {
+            TermBank bank = turning(away, lasts[k]);
+            int normal = bank.normal(bank.count(1) - 1);
+            Checks.due("all leaves are c", normal >= 0 ? bank.term(normal, 5) : normal, 27 * 5 + 13);
+            Checks.due("its SIZE, no TERM around it", normal >= 0 ? bank.term(normal, 2) : normal, 40);
+            Checks.due("STEPS, half of them to take away what is around", bank.count(7), steps[k]);
+        }
+        int much = turning(away, "aaabbb").count(1) - 1;
+        Twins.refused("one leaf more", () -> turning(away, "aaabbb"), bank -> bank.normal(much), -2, 2);
+        int deep = turning("", "aaaaaa").count(1) - 1;
+        Twins.refused("54 STEPS, but then it is too deep", () -> turning("", "aaaaaa"), bank -> bank.normal(deep), -3, 2);
     }
 
     /** "What .. is .. TOO MUCH .. changes nothing (but STATUS)": MEMO and its order, HITS, STEPS, TERMS stay. */

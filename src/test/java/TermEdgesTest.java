@@ -325,6 +325,16 @@ public final class TermEdgesTest {
             Checks.due("one term, whatever stands behind", bank.make(1, 0, 1, 3), 10);
             Checks.due("it is no ARGUMENT", bank.term(3, 7) + 10 * bank.term(5, 7), 1);
         }
+        TermBank come = Checks.bankOf("symbol a 0 1;symbol g 1 1;symbol f 2 1;symbol h 3 1;term ?0;term ?1;term ?2;");
+        int[][] due = {{0, 0, 0}, {1, 0, 0}, {2, 1, 0}, {3, 2, 1}};
+        for (int symbol = 0; symbol < 4; symbol++) {
+            Checks.due("it comes, of " + symbol, come.make(symbol, 0, 1, 2), 3 + symbol);
+            for (int t = 0; t < 3; t++) {
+                Checks.due("users of " + t + " behind " + symbol, come.term(t, 7), due[symbol][t]);
+            }
+            int arity = symbol;
+            Checks.none("no ARGUMENT beyond " + arity, () -> come.argument(3 + arity, arity));
+        }
     }
 
     /** "Like TERMS are one .. one that is there doesn't come" */
